@@ -293,8 +293,9 @@ public final class LossyLanes {
             return upper > under;
         }
 
-        int compareWith(Fraction other) {
-            return Long.compare(upper * other.under, other.upper * under);
+        /** Above 0 if this one is greater than the other, below 0 if it is less. */
+        long compareWith(Fraction other) {
+            return upper * other.under - other.upper * under;
         }
 
         private static long commonDivisor(long a, long b) {
@@ -305,7 +306,7 @@ public final class LossyLanes {
                 x = y;
                 y = rest;
             }
-            return Math.max(1, x);
+            return x < 1 ? 1 : x;
         }
     }
 
@@ -435,7 +436,7 @@ public final class LossyLanes {
         }
 
         private boolean trailIsBetter(int length) {
-            int order = trailGain.compareWith(bestGain);
+            long order = trailGain.compareWith(bestGain);
             if (order != 0) {
                 return order > 0;
             }
@@ -460,8 +461,11 @@ public final class LossyLanes {
      * bends only where a lane is worth nothing just so, or where a price is 0; each such place
      * is a plane, and the least sum stands at a corner where three planes meet. There are at
      * most 13 planes, so all corners are tried, in whole numbers: the price of the end is the
-     * common lower number of the others. (It stays below 17 * 17 * 17, and all products below
-     * 10^16, so nothing wraps around.)
+     * common lower number of the others. (It is at most 17 * 17 * 17, and all products stay
+     * below 10^16, so nothing wraps around.)
+     *
+     * No price at a corner comes out below 0: it is 0, or shares multiplied and divided along
+     * the lanes that tie its post to the end.
      */
     private static final class Prices {
         private static final int FIRST_BETWEEN = 1;
@@ -510,7 +514,7 @@ public final class LossyLanes {
                 for (int j = i + 1; j < planeCount; j++) {
                     crossTwo(planes[i], planes[j]);
                     for (int k = j + 1; k < planeCount; k++) {
-                        if (meetsAtPrices(planes[k])) {
+                        if (meetsAtCorner(planes[k])) {
                             weighCorner();
                         }
                     }
@@ -563,8 +567,8 @@ public final class LossyLanes {
             m34 = a[3] * b[4] - a[4] * b[3];
         }
 
-        /** Whether the two crossed planes meet this one at one corner with no price below 0. */
-        private boolean meetsAtPrices(int[] c) {
+        /** Whether the two crossed planes meet this one at one corner: then its prices are set. */
+        private boolean meetsAtCorner(int[] c) {
             long end = c[2] * m13 - c[1] * m23 - c[3] * m12;
             if (end == 0) {
                 return false;
@@ -574,7 +578,7 @@ public final class LossyLanes {
             price[2] = sign * (c[3] * m14 - c[1] * m34 - c[4] * m13);
             price[3] = sign * (c[1] * m24 - c[2] * m14 + c[4] * m12);
             price[END] = sign * end;
-            return price[1] >= 0 && price[2] >= 0 && price[3] >= 0;
+            return true;
         }
 
         private void weighCorner() {
