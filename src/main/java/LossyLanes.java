@@ -40,11 +40,9 @@ public final class LossyLanes {
     // The least number that each of 1 .. 9 divides: sums of amounts are counted in its parts.
     private static final int PARTS = 2520;
 
-    private final Net told = new Net();
+    private final Net now = new Net();
     private final Net[] images = new Net[IMAGES];
     private final boolean[] kept = new boolean[IMAGES];
-    private final int[] hand = new int[LONGEST_ROW];
-    private int handLength = 0;
 
     private final Rows rows = new Rows();
     private final Prices prices = new Prices();
@@ -62,21 +60,22 @@ public final class LossyLanes {
         if (!within(n, FEWEST_POSTS, MOST_POSTS)) {
             return false;
         }
-        told.posts = n;
-        told.size = 0;
-        dropRowAtHand();
+        now.posts = n;
+        now.size = 0;
+        // A row is one of lanes, and there are none any more.
+        now.dropRow();
         return true;
     }
 
     public int lane(int from, int to, int room, int p, int q) {
-        if (told.size >= MOST_LANES || !told.canLead(from, to)) {
+        if (now.size >= MOST_LANES || !now.canLead(from, to)) {
             return NONE;
         }
         if (!isRoom(room) || !isShare(p, q)) {
             return NONE;
         }
-        int number = told.size;
-        int[] lane = told.lanes[number];
+        int number = now.size;
+        int[] lane = now.lanes[number];
         lane[FROM] = from;
         lane[TO] = to;
         lane[ROOM] = room;
@@ -85,49 +84,49 @@ public final class LossyLanes {
         lane[DOUBT] = 0;
         lane[U] = 0;
         lane[V] = 1;
-        told.size = number + 1;
+        now.size = number + 1;
         return number;
     }
 
     public boolean room(int lane, int room) {
-        if (!told.hasLane(lane) || !isRoom(room)) {
+        if (!now.hasLane(lane) || !isRoom(room)) {
             return false;
         }
-        told.lanes[lane][ROOM] = room;
+        now.lanes[lane][ROOM] = room;
         return true;
     }
 
     public boolean share(int lane, int p, int q, int doubt) {
-        if (!told.hasLane(lane) || !isShare(p, q) || !within(doubt, 0, MOST_DOUBT)) {
+        if (!now.hasLane(lane) || !isShare(p, q) || !within(doubt, 0, MOST_DOUBT)) {
             return false;
         }
-        told.lanes[lane][P] = p;
-        told.lanes[lane][Q] = q;
-        told.lanes[lane][DOUBT] = doubt;
+        now.lanes[lane][P] = p;
+        now.lanes[lane][Q] = q;
+        now.lanes[lane][DOUBT] = doubt;
         return true;
     }
 
     public int tell(int lane, int what) {
-        if (!told.hasLane(lane) || !within(what, 0, NUMBERS - 1)) {
+        if (!now.hasLane(lane) || !within(what, 0, NUMBERS - 1)) {
             return NONE;
         }
-        return told.lanes[lane][what];
+        return now.lanes[lane][what];
     }
 
     public long most(int which, boolean lower) {
         if (!within(which, AS_TOLD, HOPED)) {
             return -1;
         }
-        prices.load(told, which);
+        prices.load(now, which);
         prices.findLeast(answer);
         return answer.number(lower);
     }
 
     public long more(int lane, int room, boolean lower) {
-        if (!told.hasLane(lane) || !isRoom(room)) {
+        if (!now.hasLane(lane) || !isRoom(room)) {
             return 0;
         }
-        prices.load(told, AS_TOLD);
+        prices.load(now, AS_TOLD);
         prices.findLeast(before);
         prices.changeRoom(lane, room);
         prices.findLeast(after);
@@ -136,54 +135,54 @@ public final class LossyLanes {
     }
 
     public int way(int from, int to) {
-        dropRowAtHand();
-        if (!told.hasPost(from) || !told.hasPost(to) || from == to) {
+        now.dropRow();
+        if (!now.hasPost(from) || !now.hasPost(to) || from == to) {
             return NONE;
         }
-        rows.findWays(told, from, to);
+        rows.findWays(now, from, to);
         return takeBestRow();
     }
 
     public int ring() {
-        dropRowAtHand();
-        rows.findRings(told);
+        now.dropRow();
+        rows.findRings(now);
         return takeBestRow();
     }
 
     public int row(int k) {
-        return within(k, 0, handLength - 1) ? hand[k] : NONE;
+        return within(k, 0, now.handLength - 1) ? now.hand[k] : NONE;
     }
 
     public long gain(boolean lower) {
-        if (handLength == 0) {
+        if (now.handLength == 0) {
             return 0;
         }
-        told.multiplyShares(hand, handLength, answer);
+        now.multiplyShares(now.hand, now.handLength, answer);
         return answer.number(lower);
     }
 
     public boolean send(int lane, int u, int v) {
-        if (!told.hasLane(lane)) {
+        if (!now.hasLane(lane)) {
             return false;
         }
         if (!within(u, 0, MOST_UPPER_SENT) || !within(v, 1, MOST_LOWER_SENT)) {
             return false;
         }
         answer.set(u, v);
-        told.lanes[lane][U] = (int) answer.number(false);
-        told.lanes[lane][V] = (int) answer.number(true);
+        now.lanes[lane][U] = (int) answer.number(false);
+        now.lanes[lane][V] = (int) answer.number(true);
         return true;
     }
 
     public boolean right() {
-        for (int i = 0; i < told.size; i++) {
-            int[] lane = told.lanes[i];
+        for (int i = 0; i < now.size; i++) {
+            int[] lane = now.lanes[i];
             if (lane[U] > lane[ROOM] * lane[V]) {
                 return false;
             }
         }
-        for (int post = SOURCE + 1; post < told.lastPost(); post++) {
-            if (told.balance(post) < 0) {
+        for (int post = SOURCE + 1; post < now.lastPost(); post++) {
+            if (now.balance(post) < 0) {
                 return false;
             }
         }
@@ -191,10 +190,10 @@ public final class LossyLanes {
     }
 
     public long left(int post, boolean lower) {
-        if (!told.hasPost(post)) {
+        if (!now.hasPost(post)) {
             return 0;
         }
-        long balance = told.balance(post);
+        long balance = now.balance(post);
         answer.set(post == SOURCE ? -balance : balance, (long) PARTS * PARTS);
         return answer.number(lower);
     }
@@ -202,17 +201,17 @@ public final class LossyLanes {
     public int count(int what) {
         switch (what) {
             case 0:
-                return told.posts;
+                return now.posts;
             case 1:
-                return told.size;
+                return now.size;
             case 2:
-                rows.findRings(told);
+                rows.findRings(now);
                 return rows.found;
             case 3:
-                rows.findRings(told);
+                rows.findRings(now);
                 return rows.gainful;
             case 4:
-                return handLength;
+                return now.handLength;
             default:
                 return NONE;
         }
@@ -222,7 +221,7 @@ public final class LossyLanes {
         if (!within(k, 0, IMAGES - 1)) {
             return false;
         }
-        images[k].take(told);
+        images[k].take(now);
         kept[k] = true;
         return true;
     }
@@ -231,23 +230,16 @@ public final class LossyLanes {
         if (!within(k, 0, IMAGES - 1) || !kept[k]) {
             return false;
         }
-        told.take(images[k]);
-        // The row at hand is not told, so no image has it, and its lanes are no longer these.
-        dropRowAtHand();
+        now.take(images[k]);
         return true;
-    }
-
-    private void dropRowAtHand() {
-        handLength = 0;
     }
 
     private int takeBestRow() {
         if (rows.bestLength == 0) {
             return NONE;
         }
-        System.arraycopy(rows.best, 0, hand, 0, LONGEST_ROW);
-        handLength = rows.bestLength;
-        return handLength;
+        now.takeRow(rows.best, rows.bestLength);
+        return rows.bestLength;
     }
 
     private static boolean within(int number, int least, int greatest) {
@@ -310,11 +302,17 @@ public final class LossyLanes {
         }
     }
 
-    /** All that is told: the posts, the lanes and the amounts that are sent. */
+    /**
+     * All that is: the posts, the lanes with the amounts that are sent, and the row at hand.
+     * The row stands here so that an image has it together with its lanes: whatever again()
+     * brings back, the row at hand is one of lanes that are there.
+     */
     private static final class Net {
         private int posts = FEWEST_POSTS;
         private int size = 0;
         private final int[][] lanes = new int[MOST_LANES][NUMBERS];
+        private final int[] hand = new int[LONGEST_ROW];
+        private int handLength = 0;
 
         void take(Net other) {
             posts = other.posts;
@@ -322,6 +320,16 @@ public final class LossyLanes {
             for (int i = 0; i < size; i++) {
                 System.arraycopy(other.lanes[i], 0, lanes[i], 0, NUMBERS);
             }
+            takeRow(other.hand, other.handLength);
+        }
+
+        void takeRow(int[] row, int length) {
+            System.arraycopy(row, 0, hand, 0, LONGEST_ROW);
+            handLength = length;
+        }
+
+        void dropRow() {
+            handLength = 0;
         }
 
         int lastPost() {

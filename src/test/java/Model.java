@@ -72,7 +72,7 @@ final class Model {
         }
     }
 
-    private record Told(int n, List<Lane> lanes) {
+    private record Told(int n, List<Lane> lanes, List<Integer> hand) {
     }
 
     private int n = 2;
@@ -404,7 +404,7 @@ final class Model {
         if (k < 0 || k > 2) {
             return false;
         }
-        images[k] = new Told(n, new ArrayList<>(lanes));
+        images[k] = new Told(n, new ArrayList<>(lanes), hand);
         return true;
     }
 
@@ -414,7 +414,7 @@ final class Model {
         }
         n = images[k].n;
         lanes = new ArrayList<>(images[k].lanes);
-        hand = null;
+        hand = images[k].hand;
         return true;
     }
 }

@@ -30,6 +30,7 @@ public final class PromisesTest {
         leftAtPosts();
         counts();
         imagesAndAgain();
+        rowAfterAgain();
         C.end();
     }
 
@@ -616,9 +617,41 @@ public final class PromisesTest {
         C.due("way", x.way(0, 3), 2);
         C.due("an image leaves the row", x.image(0), true);
         dueHand(x, "row", 3, 8, 0, 1);
-        C.due("again takes the lanes", x.again(0), true);
-        dueNoHand(x, "the row is not told");
+        C.due("again leaves it too", x.again(0), true);
+        dueHand(x, "row still", 3, 8, 0, 1);
         C.due("another object has no images", new LossyLanes().again(0), false);
+    }
+
+    // Promise 18 with 9 to 12: all that is, the row at hand too, is as the image has it
+    private static void rowAfterAgain() {
+        LossyLanes x = net(4, l(0, 1, 0, 1, 2), l(1, 2, 0, 3, 1), l(2, 1, 0, 3, 5), l(2, 3, 0, 1, 1));
+        C.due("image without a row", x.image(2), true);
+        C.due("way", x.way(0, 3), 3);
+        C.due("image with a way", x.image(0), true);
+        C.due("ring", x.ring(), 2);
+        C.due("image with a ring", x.image(1), true);
+        C.due("again(0)", x.again(0), true);
+        dueHand(x, "the way", 3, 2, 0, 1, 3);
+        C.due("again(1)", x.again(1), true);
+        dueHand(x, "the ring", 9, 5, 1, 2);
+        C.due("no way", x.way(3, 0), NONE);
+        dueNoHand(x, "none");
+        C.due("again of no such image", x.again(3), false);
+        dueNoHand(x, "none still");
+        C.due("again(0)", x.again(0), true);
+        dueHand(x, "the way, though none was at hand", 3, 2, 0, 1, 3);
+        x.share(1, 5, 1, 0);
+        dueHand(x, "by the shares as they are", 5, 2, 0, 1, 3);
+        C.due("again(0)", x.again(0), true);
+        dueHand(x, "by the shares of the image", 3, 2, 0, 1, 3);
+        C.due("posts(2)", x.posts(2), true);
+        dueNoHand(x, "without lanes");
+        x.lane(0, 1, 0, 7, 1);
+        C.due("way", x.way(0, 1), 1);
+        C.due("again(1)", x.again(1), true);
+        dueHand(x, "the ring, after other lanes", 9, 5, 1, 2);
+        C.due("again(2)", x.again(2), true);
+        dueNoHand(x, "none, as the image has none");
     }
 
     private static void dueImage(LossyLanes x) {
