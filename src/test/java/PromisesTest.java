@@ -1,9 +1,6 @@
 /** For each promise of the document: ordinary inputs, its edges, and wrong inputs, worked by hand. */
-public final class PromisesTest {
-    private static final int NONE = LossyLanes.NONE;
+public final class PromisesTest extends ByHand {
     private static final int[] FAR = {Integer.MIN_VALUE, -1000, 1001, Integer.MAX_VALUE};
-
-    private static final Checks C = new Checks();
 
     public static void main(String[] args) {
         newObject();
@@ -32,46 +29,6 @@ public final class PromisesTest {
         imagesAndAgain();
         rowAfterAgain();
         C.end();
-    }
-
-    private static LossyLanes net(int posts, int[]... lanes) {
-        LossyLanes x = new LossyLanes();
-        C.due("posts(" + posts + ")", x.posts(posts), true);
-        for (int i = 0; i < lanes.length; i++) {
-            int[] l = lanes[i];
-            C.due("lane " + i, x.lane(l[0], l[1], l[2], l[3], l[4]), i);
-        }
-        return x;
-    }
-
-    private static int[] l(int from, int to, int room, int p, int q) {
-        return new int[] {from, to, room, p, q};
-    }
-
-    private static void dueMost(LossyLanes x, int which, long upper, long lower) {
-        C.due("most(" + which + ")", x.most(which, false), x.most(which, true), upper, lower);
-    }
-
-    private static void dueMore(LossyLanes x, int lane, int room, long upper, long lower) {
-        C.due("more(" + lane + "," + room + ")", x.more(lane, room, false), x.more(lane, room, true), upper, lower);
-    }
-
-    private static void dueLeft(LossyLanes x, int post, long upper, long lower) {
-        C.due("left(" + post + ")", x.left(post, false), x.left(post, true), upper, lower);
-    }
-
-    private static void dueHand(LossyLanes x, String what, long upper, long lower, int... row) {
-        C.due(what + ": gain", x.gain(false), x.gain(true), upper, lower);
-        C.due(what + ": count(4)", x.count(4), row.length);
-        for (int k = 0; k < row.length; k++) {
-            C.due(what + ": row(" + k + ")", x.row(k), row[k]);
-        }
-        C.due(what + ": row past its end", x.row(row.length), NONE);
-        C.due(what + ": row(-1)", x.row(-1), NONE);
-    }
-
-    private static void dueNoHand(LossyLanes x, String what) {
-        dueHand(x, what, 0, 0);
     }
 
     // Promise 1

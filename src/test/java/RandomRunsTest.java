@@ -4,8 +4,8 @@ import java.util.Random;
 
 /** Random runs of calls, each answer compared with the plain Model's. The seeds are fixed. */
 public final class RandomRunsTest {
-    private static final int RUNS = 600;
-    private static final int CALLS = 160;
+    private static final int RUNS = 240;
+    private static final int CALLS = 511;
 
     private final Checks checks = new Checks();
     private final List<String> calls = new ArrayList<>();
